@@ -468,8 +468,8 @@ public final class PromiseMarket {
     private static final class Promise {
         boolean ended;
         int owner;
-        /** Never 0, so that it can divide, in an unused promise either. */
-        int period = CYCLE;
+        /** 0 in an unused promise alone, so it is looked at before it divides. */
+        int period;
         int budget;
         int deadline;
         int nextRelease;
