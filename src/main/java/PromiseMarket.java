@@ -556,7 +556,6 @@ public final class PromiseMarket {
             nextRelease = NONE;
             left = 0;
             due = NONE;
-            holder = NONE;
             price = NONE;
             lessee = NONE;
             jobsLeased = 0;
@@ -1008,13 +1007,15 @@ public final class PromiseMarket {
 
         private void giveTickOf(Promise promise) {
             Process holder = knownProcess(promise.holder);
-            Process buyer = holder.backlog > 0 ? null : highestBidder();
             if (holder.backlog > 0) {
                 holder.backlog--;
                 holder.usedTicks++;
                 promise.usedTicks++;
                 usedTicks++;
-            } else if (buyer != null) {
+                return;
+            }
+            Process buyer = highestBidder();
+            if (buyer != null) {
                 sellTick(holder, buyer);
                 promise.soldTicks++;
                 soldTicks++;
@@ -1297,7 +1298,7 @@ public final class PromiseMarket {
             if (token != Token.WORD || behind - start != word.length()) {
                 return false;
             }
-            for (int i = 0; i < word.length() && start + i < behind; i++) {
+            for (int i = 0; i < word.length(); i++) {
                 if (bytes[start + i] != word.charAt(i)) {
                     return false;
                 }

@@ -111,6 +111,7 @@ public final class MarketTest {
         CHECK.dueIndex("21: buy(-1, 1)", () -> market.buy(-1, 1));
         CHECK.dueIndex("21: buy(0, 2)", () -> market.buy(0, 2));
         CHECK.dueIndex("21: buy(0, -1)", () -> market.buy(0, -1));
+        CHECK.dueIndex("21: no price, no process", () -> market.buy(1, 2));
         CHECK.due("21: all after exceptions", Setups.everythingOf(market), before);
     }
 
@@ -119,6 +120,10 @@ public final class MarketTest {
                 + "promise 0 120 5 120 ask 11; promise 0 120 3 120 ask 10; promise 0 120 4 120 ask 10;"
                 + "promise 0 120 4 120 ask 10; promise 1 120 4 120 ask 1; promise 0 120 4 120; promise 0 120 9 120 ask 6;");
         market.end(7);
+        CHECK.due("22: the lowest promise has the least price",
+                Setups.market("process 0 0 0; process 9 0 0; promise 0 4 1 4 ask 9;").buyCheapest(1), 0);
+        PromiseMarket unpriced = Setups.market("process 0 0 0; promise 0 4 1 4;");
+        CHECK.dueIndex("22: no price, no process", () -> unpriced.buyCheapest(1));
         CHECK.due("22: the least price, the greatest budget, the lowest", market.buyCheapest(1), 3);
         CHECK.due("22: the next", market.buyCheapest(1), 4);
         CHECK.due("22: the next", market.buyCheapest(1), 2);
@@ -202,7 +207,12 @@ public final class MarketTest {
         market.buy(0, 2);
         CHECK.due("25: a third pair", market.partners(), 3);
         CHECK.due("26: meanPrice()", market.meanPrice(), 5.5f);
-        CHECK.due("6: count(6)", market.count(6), 4);
+        CHECK.due("28: count(6)", market.count(6), 4);
+        market.ask(1, 0);
+        market.buy(1, 2);
+        CHECK.due("24: sales(1, 2)", market.sales(1, 2), 1);
+        CHECK.due("24: sales(0, 2)", market.sales(0, 2), 1);
+        CHECK.due("25: a fourth pair, with a buyer of before", market.partners(), 4);
         CHECK.dueIndex("24: sales(3, 0)", () -> market.sales(3, 0));
         CHECK.dueIndex("24: sales(0, 3)", () -> market.sales(0, 3));
         CHECK.dueIndex("24: sales(-1, 0)", () -> market.sales(-1, 0));

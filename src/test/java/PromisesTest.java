@@ -11,6 +11,7 @@ public final class PromisesTest {
     public static void main(String[] args) {
         promise();
         refusedPromise();
+        sumBesidesTimeline();
         twentyPromises();
         greatestBudget();
         waitFor();
@@ -66,6 +67,19 @@ public final class PromisesTest {
         CHECK.due("8: a tick later", market.promise(1, 120, 1, 1), 1);
         market.run(360);
         CHECK.due("8: no job is missed", market.count(12), 0);
+    }
+
+    /** The third job of the first promise is due behind the timeline, so only the sum tells. */
+    private static void sumBesidesTimeline() {
+        PromiseMarket market = withTwoProcesses();
+        market.promise(0, 120, 60, 120);
+        market.run(60);
+        CHECK.due("9: a sum of 121", market.canAccept(120, 61, 120), false);
+        CHECK.due("9: a sum of 120", market.canAccept(120, 60, 120), true);
+        CHECK.due("10: a sum of 120", market.greatestBudget(120, 120), 60);
+        CHECK.due("11: a sum of 121", market.waitFor(120, 61, 120), -1);
+        CHECK.dueState("8: a sum of 121", () -> market.promise(0, 120, 61, 120));
+        CHECK.due("8: a sum of 120", market.promise(0, 120, 60, 120), 1);
     }
 
     /** Only jobs after the first ones collide: the timeline must look further than one period. */
@@ -130,6 +144,27 @@ public final class PromisesTest {
         CHECK.due("11: one before", half.waitFor(120, 60, 60), 1);
         half.run(1);
         CHECK.due("11: the other half begins now", half.waitFor(120, 60, 60), 0);
+        longestWait();
+    }
+
+    /** In each cycle only the ticks 0 to 56 are free together, and at 120 one tick of promise 1 is late. */
+    private static void longestWait() {
+        PromiseMarket market = withTwoProcesses();
+        market.run(57);
+        market.promise(0, 120, 1, 1);
+        market.run(1);
+        market.promise(0, 120, 1, 92);
+        market.promise(0, 120, 1, 1);
+        market.run(1);
+        market.end(2);
+        market.promise(0, 120, 61, 61);
+        market.run(60);
+        CHECK.due("11: it would be 121", market.waitFor(120, 57, 57), -1);
+        market.run(1);
+        CHECK.due("11: the late tick", market.told(1, 6), 1);
+        CHECK.due("11: 120", market.waitFor(120, 57, 57), 120);
+        market.run(120);
+        CHECK.due("11: as predicted", market.canAccept(120, 57, 57), true);
     }
 
     private static void end() {

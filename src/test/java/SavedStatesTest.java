@@ -6,6 +6,8 @@ public final class SavedStatesTest {
 
     public static void main(String[] args) {
         restore();
+        numbersUsedAgain();
+        latestFreeTick();
         whatIsNotSaved();
         slots();
         CHECK.end();
@@ -49,6 +51,54 @@ public final class SavedStatesTest {
         CHECK.due("40: and goes on as before", Setups.everythingOf(market), Setups.everythingOf(twin));
         market.restore(0);
         CHECK.due("40: it stays saved", Setups.everythingOf(market), before);
+    }
+
+    /** Processes and promises that came behind the save are gone, and new ones begin anew. */
+    private static void numbersUsedAgain() {
+        PromiseMarket market = new PromiseMarket();
+        market.save(0);
+        market.addProcess(90, 2, 9);
+        market.addProcess(90, 9, 9);
+        market.addProcess(90, 0, 0);
+        market.setArrival(0, 2, 1);
+        market.setArrival(1, 2, 1);
+        market.setArrival(2, 7, 0);
+        market.promise(0, 4, 1, 4);
+        market.promise(2, 4, 2, 3);
+        market.promise(1, 120, 1, 120);
+        market.ask(0, 5);
+        market.lease(0, 1, 9, 1);
+        market.end(2);
+        market.run(9);
+        market.addProcess(90, 50, 99);
+        market.restore(0);
+        CHECK.due("40: nothing is there", Setups.everythingOf(market), Setups.everythingOf(new PromiseMarket()));
+        PromiseMarket fresh = new PromiseMarket();
+        PromiseMarket[] both = {market, fresh};
+        for (PromiseMarket one : both) {
+            one.run(3);
+            for (int i = 0; i < 3; i++) {
+                one.addProcess(5, 0, 1);
+                one.promise(i, 12, 2, 6);
+            }
+        }
+        CHECK.due("40: those gone leave nothing behind", Setups.everythingOf(market), Setups.everythingOf(fresh));
+        market.run(20);
+        fresh.run(20);
+        CHECK.due("40: nor do they in the ticks", Setups.everythingOf(market), Setups.everythingOf(fresh));
+    }
+
+    private static void latestFreeTick() {
+        PromiseMarket market = Setups.market("process 0 5 0; process 0 5 0; process 0 5 0;");
+        market.run(1);
+        market.save(0);
+        CHECK.due("31: process 1 has the next free tick", market.ticksToFinish(1, 500), 13);
+        CHECK.due("31: process 0 has the one behind that of 2", market.ticksToFinish(0, 500), 12);
+        market.run(1);
+        CHECK.due("31: process 2 has the next free tick", market.ticksToFinish(2, 500), 13);
+        market.restore(0);
+        market.run(1);
+        CHECK.due("40: process 1 has the next free tick", market.process(1, 7), 1);
     }
 
     private static void whatIsNotSaved() {

@@ -9,6 +9,7 @@ public final class SetupTextsTest {
         read();
         whatReadReplaces();
         whatAnErrorLeaves();
+        cutTexts();
         notAllowed();
         outOfRange();
         tooMany();
@@ -69,6 +70,8 @@ public final class SetupTextsTest {
         CHECK.due("36: promise 0", Setups.promiseOf(market, 0), "0 1 120 40 120 0 -1 -1 -1 99999 -1 0 0 0 0 0 0");
         CHECK.due("36: promise 1", Setups.promiseOf(market, 1), "0 2 60 10 20 0 -1 -1 -1 0 -1 0 0 0 0 0 0");
         CHECK.due("36: promise 2", Setups.promiseOf(market, 2), "0 0 2 1 2 0 -1 -1 -1 -1 -1 0 0 0 0 0 0");
+        CHECK.due("36: the least rules", Setups.read(market, "penalty 0;fee 0;"), "0 0 -1");
+        CHECK.due("36: counts", Setups.countsOf(market), "0 0 0 0 0 0 0 0 0 0 0 0 0");
         CHECK.due("36: an empty text", Setups.read(market, ""), "0 0 -1");
         CHECK.due("36: as at first", Setups.countsOf(market), "0 0 0 0 5 10 0 0 0 0 0 0 0");
         CHECK.due("36: a text of blanks", Setups.read(market, " \n \n\n"), "0 0 -1");
@@ -123,6 +126,31 @@ public final class SetupTextsTest {
         String same = Setups.everythingOf(twin).replace("error 0 -1", "error 1 0");
         CHECK.due("36: everything else stays", Setups.everythingOf(market), same);
         CHECK.due("37: no error any more", Setups.read(market, ""), "0 0 -1");
+        Setups.read(market, "penalty 1; fee 1; process 9 9 9 every 2 3; promise 0 4 1 4 ask 6; x");
+        CHECK.due("36: nothing is left of the text with an error",
+                Setups.read(market, "process 7 7 7; promise 0 4 1 4;"), "1 0 -1");
+        CHECK.due("36: as with a new object", Setups.everythingOf(market),
+                Setups.everythingOf(Setups.market("process 7 7 7; promise 0 4 1 4;")));
+    }
+
+    /** What stands behind the end of the text does not belong to it. */
+    private static void cutTexts() {
+        PromiseMarket market = new PromiseMarket();
+        String[] texts = {"fee 12;", "fee 12;", "fees 1;", "fee 1;;", "fee    ", "feeee 5;"};
+        int[] lengths = {6, 5, 3, 5, 3, 3};
+        for (int i = 0; i < texts.length; i++) {
+            Setups.put(market, texts[i]);
+            market.truncateText(lengths[i]);
+            CHECK.due("36: '" + texts[i] + "' cut to " + lengths[i], market.read(), -1);
+            CHECK.due("38: of it", market.errorPosition(), lengths[i]);
+        }
+        String longest = " ".repeat(695) + "fee 1";
+        CHECK.due("36: 700 bytes and no semicolon", Setups.read(market, longest), "-1 1 700");
+        CHECK.due("36: 700 bytes and no number", Setups.read(market, "  " + longest.substring(0, 698)), "-1 1 700");
+        CHECK.due("36: 700 blanks", Setups.read(market, " ".repeat(700)), "0 0 -1");
+        String digits = "fee " + "0".repeat(694) + "7;";
+        CHECK.due("36: 700 bytes", Setups.read(market, digits), "0 0 -1");
+        CHECK.due("36: a number of 695 digits", market.count(5), 7);
     }
 
     private static void error(String text, int code, int position) {
@@ -138,6 +166,18 @@ public final class SetupTextsTest {
         error("Fee 5;", 1, 0);
         error("fees 5;", 1, 0);
         error("fe 5;", 1, 0);
+        error("xee 5;", 1, 0);
+        error("fex 5;", 1, 0);
+        error("feez 5;", 1, 0);
+        error("qenalty 5;", 1, 0);
+        error("penaltz 5;", 1, 0);
+        error("xrocess 1 2 3;", 1, 0);
+        error("procesz 1 2 3;", 1, 0);
+        error("process 1 2 3 xvery 1 1;", 1, 14);
+        error(FOUR + "xromise 0 4 1 4;", 1, 14);
+        error(FOUR + "promisa 0 4 1 4;", 1, 14);
+        error(FOUR + "promise 0 4 1 4 xsk 5;", 1, 14 + 16);
+        error(FOUR + "promise 0 4 1 4 asz 5;", 1, 14 + 16);
         error("feepenalty 5;", 1, 0);
         error("fee", 1, 3);
         error("fee \n ", 1, 6);

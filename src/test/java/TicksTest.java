@@ -10,6 +10,7 @@ public final class TicksTest {
         whoMayBuy();
         mostMoneyOfSeller();
         freeTicks();
+        eightProcesses();
         ticksToFinish();
         moneyAfter();
         bestBid();
@@ -130,6 +131,16 @@ public final class TicksTest {
         PromiseMarket first = Setups.market("process 0 1 0; process 0 1 0;");
         first.run(1);
         CHECK.due("30: first process 0", first.process(0, 7), 1);
+    }
+
+    private static void eightProcesses() {
+        PromiseMarket market = Setups.market("process 9 0 0; process 0 0 0; process 0 0 0; process 0 0 0;"
+                + "process 0 0 0; process 0 0 0; process 0 0 0; process 40 0 5; promise 0 4 1 4;");
+        CHECK.due("30: nobody buys", market.run(4), 1);
+        CHECK.due("28: three ticks are idle", market.count(11), 3);
+        market.setArrival(7, 4, 2);
+        CHECK.due("30: the last process buys one tick and has a free one", market.run(4), 0);
+        CHECK.due("30: the last process", Setups.processOf(market, 7), "35 0 5 4 2 0 1 1 0 5 0 0");
     }
 
     private static void ticksToFinish() {
