@@ -32,9 +32,9 @@ public final class DemandTest {
         CHECK.due("16: no tick is spare in 2", market.tightest(), 2);
         market.end(0);
         CHECK.due("16: one that ended does not count", market.tightest(), 1);
-        market.promise(0, 4, 2, 4);
-        CHECK.due("16: 1 is left in 1, as in 5, and more elsewhere", market.tightest(), 1);
-        market.promise(0, 4, 2, 4);
+        market.promise(0, 4, 3, 4);
+        CHECK.due("16: 1 is left in 1, as in 4", market.tightest(), 1);
+        market.promise(0, 4, 1, 4);
         CHECK.due("16: none is left in 4, as in 8", market.tightest(), 4);
 
         PromiseMarket below = Setups.market("process 0 0 0; promise 0 120 3 3;");

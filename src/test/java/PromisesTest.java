@@ -80,6 +80,11 @@ public final class PromisesTest {
         CHECK.due("11: a sum of 121", market.waitFor(120, 61, 120), -1);
         CHECK.dueState("8: a sum of 121", () -> market.promise(0, 120, 61, 120));
         CHECK.due("8: a sum of 120", market.promise(0, 120, 60, 120), 1);
+        PromiseMarket twice = withTwoProcesses();
+        twice.promise(0, 60, 30, 60);
+        twice.run(30);
+        CHECK.due("9: a sum of 2 * 30 and 61", twice.canAccept(120, 61, 120), false);
+        CHECK.due("9: a sum of 2 * 30 and 60", twice.canAccept(120, 60, 120), true);
     }
 
     /** Only jobs after the first ones collide: the timeline must look further than one period. */
