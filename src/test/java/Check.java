@@ -46,6 +46,11 @@ final class Check {
         dueThrow(what, IllegalStateException.class, order);
     }
 
+    /** How many checks there have been. */
+    int count() {
+        return checks;
+    }
+
     /** Prints the faults; the exit code is 1 if there was one. */
     void end() {
         for (String fault : faults) {

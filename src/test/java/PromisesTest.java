@@ -261,10 +261,10 @@ public final class PromisesTest {
         for (int i = 2; i < 20; i++) {
             CHECK.due("13: split(0, ..)", market.split(0, 31 - i), i);
         }
-        String before = Setups.everythingOf(market);
+        String before = Setups.countsOf(market) + Setups.promiseOf(market, 0);
         CHECK.dueState("13: there are 20", () -> market.split(0, 1));
         CHECK.dueArgument("13: there are 20, wrong besides", () -> market.split(0, 12));
-        CHECK.due("13: all after exceptions", Setups.everythingOf(market), before);
+        CHECK.due("13: all after exceptions", Setups.countsOf(market) + Setups.promiseOf(market, 0), before);
 
         PromiseMarket ended = withTwoProcesses();
         ended.promise(0, 120, 30, 120);

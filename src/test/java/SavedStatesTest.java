@@ -45,12 +45,16 @@ public final class SavedStatesTest {
         changeAll(market);
         market.restore(0);
         CHECK.due("40: all is back", Setups.everythingOf(market), before);
+        PromiseMarket later = busyMarket();
         PromiseMarket twin = busyMarket();
-        market.run(50);
+        later.save(0);
+        changeAll(later);
+        later.restore(0);
+        later.run(50);
         twin.run(50);
-        CHECK.due("40: and goes on as before", Setups.everythingOf(market), Setups.everythingOf(twin));
-        market.restore(0);
-        CHECK.due("40: it stays saved", Setups.everythingOf(market), before);
+        CHECK.due("40: and goes on as before", Setups.everythingOf(later), Setups.everythingOf(twin));
+        later.restore(0);
+        CHECK.due("40: it stays saved", Setups.everythingOf(later), before);
     }
 
     /** Processes and promises that came behind the save are gone, and new ones begin anew. */

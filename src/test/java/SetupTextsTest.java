@@ -147,10 +147,11 @@ public final class SetupTextsTest {
         String longest = " ".repeat(695) + "fee 1";
         CHECK.due("36: 700 bytes and no semicolon", Setups.read(market, longest), "-1 1 700");
         CHECK.due("36: 700 bytes and no number", Setups.read(market, "  " + longest.substring(0, 698)), "-1 1 700");
-        CHECK.due("36: 700 blanks", Setups.read(market, " ".repeat(700)), "0 0 -1");
+        CHECK.due("36: 700 blanks", Setups.read(new PromiseMarket(), " ".repeat(700)), "0 0 -1");
         String digits = "fee " + "0".repeat(694) + "7;";
-        CHECK.due("36: 700 bytes", Setups.read(market, digits), "0 0 -1");
-        CHECK.due("36: a number of 695 digits", market.count(5), 7);
+        PromiseMarket other = new PromiseMarket();
+        CHECK.due("36: 700 bytes", Setups.read(other, digits), "0 0 -1");
+        CHECK.due("36: a number of 695 digits", other.count(5), 7);
     }
 
     private static void error(String text, int code, int position) {

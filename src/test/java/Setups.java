@@ -59,8 +59,9 @@ final class Setups {
 
     static String salesOf(PromiseMarket market) {
         StringBuilder told = new StringBuilder();
-        for (int seller = 0; seller < market.count(1); seller++) {
-            for (int buyer = 0; buyer < market.count(1); buyer++) {
+        int processes = market.count(1);
+        for (int seller = 0; seller < processes; seller++) {
+            for (int buyer = 0; buyer < processes; buyer++) {
                 told.append(market.sales(seller, buyer)).append(' ');
             }
         }
@@ -73,10 +74,12 @@ final class Setups {
         told.append("; bank ").append(market.bank()).append("; load ").append(market.load());
         told.append("; spare ").append(market.spare()).append("; sales ").append(salesOf(market));
         told.append("; error ").append(market.errorCode()).append(' ').append(market.errorPosition());
-        for (int i = 0; i < market.count(1); i++) {
+        int processes = market.count(1);
+        for (int i = 0; i < processes; i++) {
             told.append("; process ").append(processOf(market, i));
         }
-        for (int i = 0; i < market.count(2); i++) {
+        int promises = market.count(2);
+        for (int i = 0; i < promises; i++) {
             told.append("; promise ").append(promiseOf(market, i));
         }
         return told.toString();
