@@ -156,6 +156,11 @@ final class AcceptanceEdges extends Edges {
         dueState("60 and 61", () -> market.promise(0, 120, 61, 120));
         due("60 and 60", market.canAccept(120, 60, 120), true);
         due("60 and 60", market.promise(0, 120, 60, 120), 1);
+        PromiseMarket twice = oneProcess();
+        twice.promise(0, 60, 30, 60);
+        twice.run(30);
+        due("2 times 30 and 61", twice.canAccept(120, 61, 120), false);
+        due("2 times 30 and 60", twice.canAccept(120, 60, 120), true);
     }
 
     private void noJobIsMissed() {
@@ -416,6 +421,7 @@ final class AcceptanceEdges extends Edges {
         due("nothing is made", market.count(2), 1);
         market.end(0);
         due("alone", market.isBounded(120, 5, 5), true);
+        due("alone, and never tight", market.isBounded(120, 5, 50), true);
         quote("Promise 17", "for each t from 1 to 240.");
         PromiseMarket first = Setups.market("process 0 0 0; promise 0 120 1 1;");
         due("2 in 1", first.isBounded(120, 1, 1), false);

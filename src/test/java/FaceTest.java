@@ -99,6 +99,30 @@ public final class FaceTest {
             constructors.add(constructor.toString());
         }
         check.due("constructors", constructors, List.of("public PromiseMarket()"));
+        check.due("classes in the file", type.getDeclaredClasses().length + 1 <= 12, true);
+        for (Class<?> inside : type.getDeclaredClasses()) {
+            classInside(check, inside, publicNames);
+        }
         check.end();
+    }
+
+    /** Rules 1, 2, 5 and 11 of LANGUAGE.md, as far as they can be seen from outside. */
+    private static void classInside(Check check, Class<?> inside, TreeSet<String> publicNames) {
+        String name = inside.getSimpleName();
+        int modifiers = inside.getModifiers();
+        check.due(name + " is not seen", Modifier.isPublic(modifiers) || Modifier.isProtected(modifiers), false);
+        check.due(name + " is static", Modifier.isStatic(modifiers), true);
+        int fields = 0;
+        for (Field field : inside.getDeclaredFields()) {
+            boolean isStatic = Modifier.isStatic(field.getModifiers());
+            fields += isStatic ? 0 : 1;
+            check.due(field + " is final if static", !isStatic || Modifier.isFinal(field.getModifiers()), true);
+        }
+        check.due(name + " has some twenty fields at most", fields <= 20, true);
+        for (Method method : inside.getDeclaredMethods()) {
+            check.due(method + " takes at most seven", method.getParameterCount() <= 7, true);
+            check.due(method + " is private with a public one's name",
+                    Modifier.isPrivate(method.getModifiers()) && publicNames.contains(method.getName()), false);
+        }
     }
 }

@@ -279,6 +279,7 @@ final class MarketEdges extends Edges {
             due(reasons[i], markets[i].buyCheapest(1), -1);
             due("everything then", Setups.everythingOf(markets[i]), before);
         }
+        dueIndex("none, and no such process", () -> markets[1].buyCheapest(2));
     }
 
     private void lease() {

@@ -15,13 +15,18 @@ final class SavedEdges extends Edges {
         savesNotTheSavedStates();
         slotsOfSave();
         restoredStateStaysSaved();
+        whatCameBehindTheSaveIsGone();
         slotsOfRestore();
     }
 
     /** A market in the middle of all that can go on. */
     private static PromiseMarket lively() {
-        PromiseMarket market = Setups.market("penalty 6;fee 11;process 500 9 9;process 500 0 30 every 7 2;process 0 3 0;"
+        PromiseMarket market = Setups.market("penalty 6;fee 11;process 500 0 9;process 500 0 30;process 0 0 0;"
                 + "promise 0 4 1 3 ask 10;promise 1 10 3 8;promise 2 60 9 60;");
+        market.run(25);
+        market.addWork(0, 9);
+        market.setArrival(1, 7, 2);
+        market.addWork(2, 3);
         market.run(9);
         market.buy(0, 1);
         market.lease(0, 0, 9, 2);
@@ -32,7 +37,10 @@ final class SavedEdges extends Edges {
         return market;
     }
 
+    /** Leaves no figure as it was: the first ticks are wasted, idle and free, the others used and sold. */
     private static void changeAll(PromiseMarket market) {
+        market.setArrival(1, 0, 0);
+        market.run(60);
         market.addProcess(1, 1, 1);
         market.setBid(0, 50);
         market.setArrival(1, 2, 9);
@@ -173,9 +181,67 @@ final class SavedEdges extends Edges {
         market.run(3);
         market.save(1);
         market.restore(0);
-        due("behind another save()", market.count(0), 17);
+        due("behind another save()", market.count(0), 42);
         market.restore(1);
-        due("which is there too", market.count(0), 20);
+        due("which is there too", market.count(0), 45);
+    }
+
+    /** Numbers of processes and promises that are free again are used as if for the first time. */
+    private void whatCameBehindTheSaveIsGone() {
+        quote("Promise 40", "Brings back a saved state,");
+        PromiseMarket market = new PromiseMarket();
+        market.addProcess(5, 0, 1);
+        market.save(0);
+        liveOn(market);
+        market.restore(0);
+        due("processes and promises", market.count(1) + " " + market.count(2) + " " + market.process(0, 11), "1 0 0");
+        dueIndex("process 1", () -> market.process(1, 0));
+        dueIndex("promise 0", () -> market.told(0, 0));
+        PromiseMarket fresh = new PromiseMarket();
+        fresh.addProcess(5, 0, 1);
+        beginAnew(market);
+        beginAnew(fresh);
+        due("new ones of those numbers", Setups.everythingOf(market), Setups.everythingOf(fresh));
+        market.run(20);
+        fresh.run(20);
+        due("20 ticks later", Setups.everythingOf(market), Setups.everythingOf(fresh));
+        PromiseMarket other = new PromiseMarket();
+        other.addProcess(5, 0, 1);
+        other.save(0);
+        liveOn(other);
+        due("what is left of the job of promise 1", other.told(1, 6), 3);
+        other.restore(0);
+        beginAnew(other);
+        due("what is left of a new promise 1, which has no job yet", other.end(1), 0);
+    }
+
+    /** Leaves no figure of a process or promise as it was at first. */
+    private static void liveOn(PromiseMarket market) {
+        market.addProcess(90, 9, 9);
+        market.addProcess(90, 0, 0);
+        market.setArrival(1, 2, 1);
+        market.setArrival(2, 7, 0);
+        market.promise(0, 4, 1, 4);
+        market.promise(2, 12, 6, 12);
+        market.promise(1, 120, 1, 120);
+        market.ask(0, 5);
+        market.lease(0, 1, 9, 1);
+        market.end(2);
+        market.run(13);
+        market.setBid(0, 0);
+        market.setBid(1, 0);
+        market.addWork(2, 1);
+        market.lease(1, 1, 9, 1);
+        market.run(3);
+    }
+
+    private static void beginAnew(PromiseMarket market) {
+        market.run(3);
+        market.addProcess(5, 0, 1);
+        market.addProcess(5, 0, 1);
+        for (int i = 0; i < 3; i++) {
+            market.promise(i, 12, 2, 6);
+        }
     }
 
     private void slotsOfRestore() {

@@ -117,6 +117,9 @@ final class TextEdges extends Edges {
             dueWrong(1, ONE, word.substring(0, 2) + word.substring(3));
             dueWrong(1, ONE, word.replaceFirst(" ", "s "));
             dueWrong(1, ONE, "a" + word);
+            dueWrong(1, ONE, "z" + word.substring(1));
+            dueWrong(1, ONE, word.replaceFirst(" ", "z "));
+            dueWrong(1, ONE, word.replaceFirst(". ", "z "));
         }
         PromiseMarket market = new PromiseMarket();
         due("the word and the number of 'fee49;'", Setups.read(market, "fee49;") + " " + market.count(5), "0 0 -1 49");
@@ -357,6 +360,12 @@ final class TextEdges extends Edges {
         Setups.put(market, "fee 12;");
         market.truncateText(6);
         due("cut before the symbol", market.read() + " " + market.errorCode() + " " + market.errorPosition(), "-1 1 6");
+        Setups.put(market, "fee 12;");
+        market.truncateText(5);
+        due("cut within the number", market.read() + " " + market.errorCode() + " " + market.errorPosition(), "-1 1 5");
+        Setups.put(market, "fees 1;");
+        market.truncateText(3);
+        due("cut within the word", market.read() + " " + market.errorCode() + " " + market.errorPosition(), "-1 1 3");
         Setups.put(market, "fee 12;");
         market.truncateText(3);
         due("cut before the number", market.read() + " " + market.errorCode() + " " + market.errorPosition(), "-1 1 3");
