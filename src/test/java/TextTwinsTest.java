@@ -200,6 +200,13 @@ public final class TextTwinsTest {
         }
     }
 
+    /** It has read a text before, of which nothing may be left. */
+    private PromiseMarket usedObject() {
+        PromiseMarket market = chance.make();
+        Setups.read(market, "penalty 1;fee 2;process 3 4 5 every 6 7;promise 0 6 2 4 ask 5;");
+        return passed(market, 3);
+    }
+
     private void compareOnUsedObject() {
         if (hasError()) {
             String want = chance.seenAfter();
@@ -207,10 +214,10 @@ public final class TextTwinsTest {
             return;
         }
         for (int ticks : new int[] {0, 130}) {
-            String heads = Script.heads(byText(chance.make(), ticks));
+            String heads = Script.heads(byText(usedObject(), ticks));
             CHECK.due(name + "heads of a used object", heads, Script.heads(byCalls(ticks)));
             for (int first = 0; first < 20; first += 10) {
-                String promises = Script.promises(byText(chance.make(), ticks), first, first + 10);
+                String promises = Script.promises(byText(usedObject(), ticks), first, first + 10);
                 String want = Script.promises(byCalls(ticks), first, first + 10);
                 CHECK.due(name + "promises of a used object from " + first, promises, want);
             }
